@@ -14,7 +14,7 @@ public final class LanguageTest {
         "Math.min", "Math.max", "Arrays.fill", "System.arraycopy");
     private static final String[] LEFT_OUT = {"throw", "throws", "try", "catch", "finally", "synchronized",
         "assert", "volatile", "transient", "native", "strictfp", "protected", "package", "var", "Object",
-        "Exception", "Thread", "Random", "hashCode", "toString", "equals", "->", "::", "while"};
+        "Exception", "Thread", "Random", "hashCode", "toString", "equals", "->", "::"};
 
     public static void main(String[] args) throws IOException {
         String text = Files.readString(Path.of("src/main/java/WalkTeller.java"));

@@ -211,6 +211,13 @@ public final class ReadingTest {
         see(t, 0, 0, 0);
         t.sheet(0, 32, 0);
         D.due("no numbers", t.trace(0, 0), 0);
+        fill(t, 0, 8, 10, 30, 3, 10, 30, 3);
+        D.due("off the street by y", t.trace(0, 0), 2);
+        D.due("at 0", t.about(0, 0), 0);
+        fill(t, 0, 8, 13, -20, 20, 7, 3, 3);
+        D.due("by y on the street", t.trace(0, 0), 2);
+        D.due("once", t.about(0, 0), 0);
+        see(t, 10, 0, 1);
     }
 
     private static void traceStops() {

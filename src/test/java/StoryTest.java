@@ -85,6 +85,10 @@ public final class StoryTest {
         wrong("0p1@0;", 3);
         wrong("0t1@0;", 3);
         wrong("0e1a@0;", 4);
+        wrong("0s1A0;", 3);
+        wrong("0s1?0;", 3);
+        wrong("0p1<", 3);
+        wrong("0p1:", 3);
         wrong("0s1@;", 4);
         wrong("0s1@a;", 4);
         wrong("0s1@7;", 4);
@@ -157,6 +161,9 @@ public final class StoryTest {
         D.due("a fifth, wrong", Due.tell(t, "0p9"), Due.WRONG - 3);
         D.due("a fifth, empty", t.story(), Due.WRONG);
         D.due("editions", t.told(2), 4);
+        for (int n = 4; n < 7; n++) {
+            D.due("of no such edition " + n, t.of(n, 0, 0), Due.BEYOND);
+        }
         D.due("the last is as it was", t.of(3, 0, 2), 4);
         D.due("the first is as it was", t.of(0, 0, 2), 1);
     }

@@ -76,6 +76,9 @@ public final class TownTest {
         D.due("a fifteenth", t.way(0, 1, 1, false), Due.FULL);
         D.due("a fifteenth, beyond", t.way(0, 0, 1, false), Due.BEYOND);
         D.due("ways", t.told(1), 14);
+        for (int n = 14; n < 17; n++) {
+            D.due("shut, of no such way " + n, t.shut(n, 1), Due.BEYOND);
+        }
     }
 
     private static void shut() {

@@ -12,6 +12,7 @@ public final class WalkTest {
         quickest();
         routeTakesTheLesserCorner();
         routeGoesBack();
+        whatCanBeToldIsTold();
         wrongInputs();
         D.end();
     }
@@ -56,9 +57,12 @@ public final class WalkTest {
         Due.tell(t, "0p1;0p1l;0s1ab;0t1bc;0e1d;0e1ai;");
         D.due("all of a piece, one of an end", t.check(0, 0, 0, true, 3), 1 | 32);
         Due.tell(t, "0p1c;0t1al;0t1;0t1e;0e1d;");
+        Due.tell(t, "0e1a;");
         D.due("a turn with none, one with itself", t.check(1, 0, 0, true, 3), 1 | 2 | 4);
         D.due("an end that can't be come to", t.quickest(1, 0, 0, true), Due.NONE);
-        Due.tell(t, "0e1a;");
+        Due.tell(t, "0p1;0s1a;0t1b;");
+        D.due("all heard, and no end among them", t.quickest(3, 0, 0, true), Due.NONE);
+        D.due("four dead ends", t.check(3, 0, 0, true, 1), 4);
         D.due("an end that needs itself", t.check(2, 0, 0, true, 3), 0);
         D.due("is a dead end", t.check(2, 0, 0, true, 1), 1);
     }
@@ -136,6 +140,23 @@ public final class WalkTest {
             D.due("corner " + i, t.route(0, 2, 0, true, i), want[i]);
         }
         D.due("moments: four corners, three times, and the end", t.check(0, 2, 0, true, 0), 13);
+    }
+
+    /** At corner 0 a long piece must be heard ahead of going on, though the end is near. */
+    private static void whatCanBeToldIsTold() {
+        WalkTeller t = Due.corners(3);
+        t.way(1, 0, 1, false);
+        t.way(0, 2, 1, false);
+        t.way(1, 2, 20, false);
+        Due.tell(t, "0p9;2e1;");
+        D.due("1 + 9 + 1 + 1", t.quickest(0, 1, 0, true), 12);
+        D.due("by 0", t.route(0, 1, 0, true, 0), 0);
+        D.due("0, 1 and 2 without, all with it, and two ends", t.check(0, 1, 0, true, 0), 8);
+        Due.tell(t, "0p9;2e1;0p9;");
+        D.due("1 + 18 + 1 + 1 is as long as 20 + 1: the lesser corner", t.route(1, 1, 0, true, 0), 0);
+        Due.tell(t, "0p9;2e1;0p9;0p1;");
+        D.due("the long way now", t.quickest(2, 1, 0, true), 21);
+        D.due("to 2", t.route(2, 1, 0, true, 0), 2);
     }
 
     private static void wrongInputs() {

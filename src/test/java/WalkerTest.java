@@ -30,9 +30,19 @@ public final class WalkerTest {
         D.due("a seventh", t.walker(0, true), Due.FULL);
         D.due("a seventh, beyond", t.walker(9, true), Due.BEYOND);
         D.due("walkers", t.told(3), 6);
+        for (int n = 6; n < 9; n++) {
+            D.due("about no such walker " + n, t.about(n, 0), Due.BEYOND);
+        }
         D.due("is told at once", t.about(0, 1), 5);
         D.due("takes its time", t.about(0, 2), 7);
         D.due("the other one", t.about(1, 1), 2);
+        WalkTeller u = Due.corners(1);
+        Due.tell(u, "0t1;".repeat(12));
+        u.walker(0, true);
+        D.due("twelve at once", u.about(0, 1), 4095);
+        D.due("in their time", u.about(0, 2), 12);
+        D.due("none lost", u.lost(0), 0);
+        D.due("no end", u.rest(0), Due.NONE);
     }
 
     private static void walkerKeepsItsEdition() {
@@ -166,6 +176,22 @@ public final class WalkerTest {
         t.go(2, 3);
         D.due("2 is empty now", t.offer(0), 2);
         D.due("from 3: to 4, where one is, but over", t.offer(1), 4);
+        WalkTeller u = Due.corners(3);
+        u.way(1, 0, 1, false);
+        u.way(1, 2, 2, false);
+        u.way(0, 2, 1, false);
+        Due.tell(u, "2s1l;2e1b;0p1l;1e1ab;0e9;");
+        u.walker(1, true);
+        D.due("by 0 straight to its end", u.offer(0), 0);
+        Due.tell(u, "0e1;2e9;");
+        u.walker(1, true);
+        D.due("0 is quicker than 2", u.offer(1), 0);
+        WalkTeller v = star();
+        v.walker(3, true);
+        v.walker(0, true);
+        D.due("walker 0 counts at 3", v.offer(1), 2);
+        v.today(1);
+        D.due("on each day", v.offer(1), 2);
     }
 
     private static void offerTakesTheLeastTime() {
@@ -254,5 +280,7 @@ public final class WalkerTest {
         t.go(0, 2);
         D.due("over", t.lost(0), 16 | 32);
         D.due("heard", t.about(0, 1), 15);
+        t.walker(3, true);
+        D.due("piece 0, too", t.lost(1), 63 & ~8);
     }
 }
