@@ -96,8 +96,7 @@ public final class WalkTeller {
         if (!town.hasCorner(a) || !town.hasCorner(b) || !isDay(day)) {
             return finding(BEYOND);
         }
-        int length = search.distance(town, a, b, day, stairs);
-        return length < NEVER ? length : finding(NONE);
+        return timeOrNone(search.distance(town, a, b, day, stairs));
     }
 
     // ---- stories
