@@ -295,15 +295,15 @@ public final class WalkTeller {
         if (!isSheet(s) || !isSheetBits(bits)) {
             return finding(BEYOND);
         }
-        if (bits == 0) {
-            sheets[s] = null;
-            return 0;
-        }
         if (n < 0) {
             return finding(SIZE);
         }
         if (n > MOST_NUMBERS) {
             return finding(BEYOND);
+        }
+        if (bits == 0) {
+            sheets[s] = null;
+            return 0;
         }
         sheets[s] = new Sheet(bits, n);
         return n;

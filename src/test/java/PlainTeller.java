@@ -502,12 +502,12 @@ final class PlainTeller {
 
     int sheet(int s, int bits, int n) {
         if (!in(s, 4) || !Set.of(0, 8, 16, 32).contains(bits)) return find(Due.BEYOND);
+        if (n < 0) return find(Due.SIZE);
+        if (n > 12) return find(Due.BEYOND);
         if (bits == 0) {
             sheets[s] = null;
             return 0;
         }
-        if (n < 0) return find(Due.SIZE);
-        if (n > 12) return find(Due.BEYOND);
         sheets[s] = bits == 8 ? new byte[n] : bits == 16 ? new short[n] : new int[n];
         return n;
     }

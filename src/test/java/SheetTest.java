@@ -5,6 +5,7 @@ public final class SheetTest {
     public static void main(String[] args) {
         sheet();
         sheetAnew();
+        missingFindings();
         write();
         lowestBits();
         copy();
@@ -45,8 +46,23 @@ public final class SheetTest {
         D.due("all 0", t.write(2, 1, 9), 0);
         D.due("missing", t.sheet(2, 0, 5), 0);
         D.due("is missing", t.write(2, 1, 0), Due.MISSING);
-        D.due("missing again, whatever n", t.sheet(2, 0, -1), 0);
-        D.due("missing again, whatever n", t.sheet(2, 0, 13), 0);
+        D.due("missing again", t.sheet(2, 0, 0), 0);
+    }
+
+    /** That a sheet is to be MISSING does not spare n its findings. */
+    private static void missingFindings() {
+        WalkTeller t = new WalkTeller();
+        t.sheet(2, 16, 3);
+        t.write(2, 1, 7);
+        D.due("bits 0, n -1", t.sheet(2, 0, -1), Due.SIZE);
+        D.due("bits 0, n least", t.sheet(2, 0, Integer.MIN_VALUE), Due.SIZE);
+        D.due("bits 0, n 13", t.sheet(2, 0, 13), Due.BEYOND);
+        D.due("bits 0, n most", t.sheet(2, 0, Integer.MAX_VALUE), Due.BEYOND);
+        D.due("no sheet ahead of size", t.sheet(4, 0, -1), Due.BEYOND);
+        D.due("each is counted", t.told(6), 5);
+        D.due("and the sheet is as it was", t.write(2, 1, 8), 7);
+        D.due("bits 0, n 12", t.sheet(2, 0, 12), 0);
+        D.due("is missing", t.write(2, 1, 0), Due.MISSING);
     }
 
     private static void write() {
