@@ -1,4 +1,5 @@
 import java.nio.charset.StandardCharsets;
+import java.util.stream.LongStream;
 
 /** Counts answers that are not the ones that are due, and helps to make towns and texts. */
 final class Due {
@@ -13,13 +14,32 @@ final class Due {
 
     private int asked = 0;
     private int wrong = 0;
+    private String sentence = "";
+
+    /** The sentence of the document to which the answers hold that are asked from here on. */
+    void says(String words) {
+        sentence = "[" + words + "] ";
+    }
 
     void due(String call, long got, long want) {
         asked++;
         if (got != want) {
             wrong++;
-            System.out.println(call + " answered " + got + ", due is " + want);
+            System.out.println(sentence + call + " answered " + got + ", due is " + want);
         }
+    }
+
+    /**
+     * Ints that are not least to most: those next to them, the ends of int, and such as have the
+     * lowest 5, 6, 8 or 16 bits, or all but the sign, of one that is.
+     */
+    static int[] outside(int least, int most) {
+        return LongStream.of(least - 1L, most + 1L, least - 2L, most + 2L, least + 32L, most + 32L, least - 32L,
+                least + 64L, least + 256L, most + 256L, least - 256L, least + 65536L, least - 65536L,
+                Integer.MIN_VALUE + (long) Math.max(least, 0), Integer.MIN_VALUE, Integer.MIN_VALUE + 1L,
+                Integer.MAX_VALUE - 1L, Integer.MAX_VALUE)
+            .filter(value -> value == (int) value && (value < least || value > most))
+            .mapToInt(value -> (int) value).distinct().toArray();
     }
 
     /** Prints the outcome, and ends the machine with exit code 1 if an answer was wrong. */
