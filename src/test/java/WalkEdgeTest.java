@@ -133,6 +133,15 @@ public final class WalkEdgeTest {
         D.due("nor heard", t.check(0, 0, 0, true, 3), 1);
         D.due("a turn is no end", t.check(1, 0, 0, true, 3), 7);
         D.due("nor over", t.check(1, 0, 0, true, 1), t.check(1, 0, 0, true, 0));
+        D.says("Terms 3: over, and so no CORNER is gone to behind it, whatever was asked ahead");
+        WalkTeller u = Due.street(3);
+        Due.tell(u, "1p1;1p1;2e1;");
+        Due.tell(u, "1e1;1p1;2p1;");
+        for (int edition : new int[] {0, 1, 0, 1}) {
+            D.due("first of " + edition, u.route(edition, 0, 0, true, 0), 1);
+            D.due("second of " + edition, u.route(edition, 0, 0, true, 1), edition == 0 ? 2 : -1);
+            D.due("third of " + edition, u.route(edition, 0, 0, true, 2), -1);
+        }
     }
 
     private static void howManyMoments() {
