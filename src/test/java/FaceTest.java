@@ -1,10 +1,17 @@
+import java.io.IOException;
 import java.lang.reflect.Constructor;
 import java.lang.reflect.Field;
 import java.lang.reflect.Method;
 import java.lang.reflect.Modifier;
+import java.nio.file.Files;
+import java.nio.file.Path;
+import java.util.ArrayList;
 import java.util.Arrays;
+import java.util.List;
 import java.util.Set;
 import java.util.TreeSet;
+import java.util.regex.MatchResult;
+import java.util.regex.Pattern;
 
 /** The public face is the document's and no more; the classes inside are static and not public. */
 public final class FaceTest {
@@ -18,10 +25,52 @@ public final class FaceTest {
         "sheet(int,int,int)", "write(int,int,int)", "copy(int,int,int,int,int)", "trace(int,int)",
         "told(int)"};
 
-    public static void main(String[] args) {
+    private static final Path DOCUMENT = Path.of("..", "shared", "DOC.md");
+    private static final Path PROGRAM = Path.of("src", "main", "java", "WalkTeller.java");
+
+    public static void main(String[] args) throws IOException {
         methods();
         members();
+        String document = Files.readString(DOCUMENT);
+        String program = Files.readString(PROGRAM);
+        signatures(document, program);
+        headings(document, program);
         D.end();
+    }
+
+    private static List<String> all(String pattern, String text) {
+        return Pattern.compile(pattern).matcher(text).results().map(MatchResult::group).toList();
+    }
+
+    /** The document's face, its order and its names of parameters, and each promise's own face. */
+    private static void signatures(String document, String program) {
+        List<String> due = all("public (int )?\\w+\\([^)]*\\)", document);
+        List<String> there = all("public (int )?\\w+\\([^)]*\\)", program);
+        D.due("the document's acts and constructor", due.size(), 25);
+        D.due("the face " + there + ", the document has " + due, there.equals(due) ? 1 : 0, 1);
+        List<String> promised = all("(?m)^`[^`]+`(?=:)", document);
+        D.due("promises", promised.size(), 25);
+        for (String promise : promised) {
+            String face = "public " + promise.replace("`", "");
+            D.due("the promise " + promise + " is in the face", there.contains(face) ? 1 : 0, 1);
+        }
+    }
+
+    /** "Ahead of the calls .. the interface says: ---- ..": so does the program. */
+    private static void headings(String document, String program) {
+        List<String> due = new ArrayList<>();
+        for (String line : all("(?m)^Ahead of the calls .*$", document)) {
+            String heading = line.replaceFirst(".* the interface says: (.*)\\.$", "$1");
+            due.add(heading);
+            all("`\\w+`", line).forEach(call -> due.add(call.replace("`", "")));
+        }
+        List<String> there = new ArrayList<>();
+        for (String line : all("(?m)^    (public int \\w+|// ---- .*$)", program)) {
+            there.add(line.strip().replaceFirst("^(public int|//) ", ""));
+        }
+        D.due("headings and calls of the document", due.size(), 28);
+        D.due("headings and calls " + there + ", the document has " + due,
+            there.subList(0, Math.min(there.size(), due.size())).equals(due) ? 1 : 0, 1);
     }
 
     private static String face(Method method) {
