@@ -59,10 +59,6 @@ public final class LanguageTest {
             D.due("rule " + number + ", " + where(tree) + what, kept ? 1 : 0, 1);
         }
 
-        Element element(Tree tree) {
-            return trees.getElement(new TreePath(getCurrentPath(), tree));
-        }
-
         TypeMirror type(Tree tree) {
             return trees.getTypeMirror(new TreePath(getCurrentPath(), tree));
         }
@@ -92,9 +88,11 @@ public final class LanguageTest {
                 outermost || (inside && flags.contains(Modifier.STATIC)));
             int fields = 0;
             for (Tree member : tree.getMembers()) {
-                boolean field = member instanceof VariableTree;
-                fields += field && !((VariableTree) member).getModifiers().getFlags().contains(Modifier.STATIC) ? 1 : 0;
                 rule(5, member, "no block of initialising", !(member instanceof BlockTree));
+                if (member instanceof VariableTree field
+                        && !field.getModifiers().getFlags().contains(Modifier.STATIC)) {
+                    fields++;
+                }
             }
             rule(11, tree, "fields of " + tree.getSimpleName(), fields <= 20);
             return super.visitClass(tree, none);
